@@ -171,6 +171,8 @@ public final class ForetoldTest {
         dueDrives(x, 8, 2, 3, 7);
         // Of goats that bite alike the least bits are told.
         dueDrives(Check.told("v0,1;s4,0,3;g9,0;g9,0;"), 1, 1, 1, 1);
+        // Goats 0 and 1 bite once each, goat 2 twice; two bites may be: goat 2 alone, not 0 and 1, is the fewest.
+        dueDrives(Check.told("v0,1;s8,0,3;g2,0;g2,0;g4,0;"), 1, 2, 1, 4);
         VineLaws y = Check.told(TWO);
         dueDrives(y, 1, 2, 1, 2);
         dueDrives(y, 2, 3, 1, 1);
@@ -311,6 +313,8 @@ public final class ForetoldTest {
         Check.due("strayed, as it is or without goat 0", x.strayed(0, 0, 0, 2), 17);
         Check.due("strayed, without goat 1", x.strayed(0, 0, 2, 2), 2);
         Check.due("strayed, by none", x.strayed(0, 0, 1, 2), 0);
+        x.force(9);
+        Check.due("strayed behind what was foretold", x.strayed(0, 0, 0, 2), 17);
         // Driven off all the while, not for the hour that it was.
         x.drive(1, 1);
         Check.items(x, 1, 4, 2);
@@ -402,6 +406,9 @@ public final class ForetoldTest {
         Check.due("drawn(7, 1, 0) of two", y.drawn(7, 1, 0), 9);
         y.drive(0, 60);
         Check.due("drawn(9, 1, 0), driven off for 2 then", y.drawn(9, 1, 0), 8);
+        VineLaws z = Check.told("v1,1;h2,0,3;g1,0;");
+        Check.due("drawn(1, 1, 1) with one left", z.drawn(1, 1, 1), 0);
+        Check.due("drawn(2, 1, 1) with none left", z.drawn(2, 1, 1), 1);
         Check.due("drawn(60, 999999, 0)", x.drawn(60, 999999, 0) >= 0 ? 1 : 0, 1);
         Check.due("drawn(-1, 1, 0)", x.drawn(-1, 1, 0), VineLaws.BAD);
         Check.due("drawn(61, 1, 0)", x.drawn(61, 1, 0), VineLaws.BAD);

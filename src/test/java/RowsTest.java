@@ -154,6 +154,7 @@ public final class RowsTest {
         Check.due("copy from place max", x.copy(0, Integer.MAX_VALUE, 1, 0, 1), -1000012);
         dueNoItem(x, 1, 0);
         dueNoItem(x, 1, 2);
+        x.as(0, 5);
         Check.due("copy of all", x.copy(0, 0, 1, 1, 2), 2);
         Check.due("status() behind copy", x.status(), 0);
         dueItem(x, 1, 2, 3);
