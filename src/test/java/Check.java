@@ -1,6 +1,7 @@
 /** What the tests share: answers that are due, and squares told by a text. */
 final class Check {
     private static int wrong;
+    private static String about = "";
 
     private Check() {
     }
@@ -8,8 +9,13 @@ final class Check {
     static void due(String what, long got, long want) {
         if (got != want) {
             wrong++;
-            System.out.println(what + " answered " + got + ", due is " + want);
+            System.out.println(about + what + " answered " + got + ", due is " + want);
         }
+    }
+
+    /** What the answers to come are about: it stands ahead of each that is wrong. */
+    static void about(String words) {
+        about = words;
     }
 
     static void feed(VineLaws x, String text) {
