@@ -28,14 +28,11 @@ final class Edge {
     static void of(int promise, String words, Runnable test) {
         Check.about("promise " + promise + " '" + words + "': ");
         tell(promise, words);
-        test.run();
-        Check.about("");
-    }
-
-    /** Words that name no edge of their own: what they say is tested with the sentences around them. */
-    static void none(int promise, String words) {
-        Check.about("promise " + promise + " '" + words + "': ");
-        tell(promise, words);
+        try {
+            test.run();
+        } catch (Run.Threw e) {
+            Check.due(e.getMessage(), 1, 0);
+        }
         Check.about("");
     }
 
@@ -47,7 +44,9 @@ final class Edge {
             place = DOC.indexOf(words);
             to = DOC.indexOf("## Promise 1:");
         }
+        int again = DOC.indexOf(words, place + 1);
         Check.due("stands in DOC.md", place >= 0 && place < to ? 1 : 0, 1);
+        Check.due("stands there again", again >= 0 && again < to ? 1 : 0, 0);
         for (int i = 0; i < words.length() && place >= 0; i++) {
             TOLD[place + i] = true;
         }

@@ -204,7 +204,8 @@ final class GuessEdges {
         Run.told("v0,1;h5,0,0;g0,0;g0,0;g0,0;g1,0;").row(0, 0, 5).due("strayed(0, 0, 0, 1)", 8);
         Run.told("v0,1;h5,0,0;g1,0;g0,0;g0,0;g0,0;").row(0, 0, 5).due("strayed(0, 0, 0, 1)", 1);
         // All the while: twelve hours, whatever it was driven off for.
-        Run all = Run.told("v0,1;h20,0,0;g40,0;").does("drive(0, 1)").row(0, 0, 20, 20, 20, 20, 20, 20, 20, 20, 20, 20, 20, 20);
+        Run all = Run.told("v0,1;h20,0,0;g40,0;").does("drive(0, 1)");
+        all.row(0, 0, 20, 20, 20, 20, 20, 20, 20, 20, 20, 20, 20, 20);
         all.due("strayed(0, 0, 0, 1)", 17).due("strayed(0, 0, 0, 2)", 1).due("strayed(0, 0, 0, 12)", 1);
         all.does("drive(0, 60)").due("strayed(0, 0, 0, 12)", 17);
         // Two goats, both of which would have to go: none makes it so.

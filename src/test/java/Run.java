@@ -16,6 +16,15 @@ final class Run {
     private final VineLaws laws = new VineLaws();
     private int calls;
 
+    /** What no call may do. */
+    static final class Threw extends RuntimeException {
+        private static final long serialVersionUID = 1;
+
+        Threw(String message, Throwable cause) {
+            super(message, cause);
+        }
+    }
+
     private static Map<String, Method> face() {
         Map<String, Method> face = new HashMap<>();
         for (Method method : VineLaws.class.getDeclaredMethods()) {
@@ -43,7 +52,7 @@ final class Run {
         try {
             return ((Number) FACE.get(words.substring(0, open)).invoke(laws, numbers(words, open + 1))).longValue();
         } catch (InvocationTargetException e) {
-            throw new IllegalStateException(words + " threw", e.getCause());
+            throw new Threw(words + " threw " + e.getCause(), e);
         } catch (IllegalAccessException e) {
             throw new IllegalStateException(words, e);
         }
