@@ -1,7 +1,7 @@
 /** What the tests share: answers that are due, and squares told by a text. */
 final class Check {
     private static int wrong;
-    private static String about = "";
+    private static volatile String about = "";
 
     private Check() {
     }
